@@ -333,7 +333,7 @@ public final class WindHarp {
             return BAD;
         }
         asks.begin(tree, kindIn(tree, wind), current.trees.length[tree], current.toneOf(tree));
-        return what == 0 ? asks.sizeAsked(0) : asks.markAsked(0);
+        return what == 0 ? asks.sizeAsked() : asks.markAsked();
     }
 
     public int trace(int i) {
@@ -942,7 +942,7 @@ public final class WindHarp {
 
     /** One ask of a tree: the bodies by their numbers, and the trace that they leave. */
     private static final class Asks {
-        static final int TRACE_MOST = 16, DEPTH_MOST = 8;
+        static final int TRACE_MOST = 16;
 
         final int[] bodies = new int[TRACE_MOST];
         int count;
@@ -966,13 +966,10 @@ public final class WindHarp {
             }
         }
 
-        int sizeAsked(int depth) {
-            if (depth > DEPTH_MOST) {
-                return 0;
-            }
+        int sizeAsked() {
             switch (toldAs) {
-                case SINGING: return body11(depth + 1);
-                case BUZZING: return body12(depth + 1);
+                case SINGING: return body11();
+                case BUZZING: return body12();
                 case MUTE:
                 case ICED: return body13();
                 case FALLEN: return body14();
@@ -980,14 +977,11 @@ public final class WindHarp {
             }
         }
 
-        int markAsked(int depth) {
-            if (depth > DEPTH_MOST) {
-                return 0;
-            }
+        int markAsked() {
             switch (toldAs) {
                 case SINGING:
                 case BUZZING: return body21();
-                case ICED: return body22(depth + 1);
+                case ICED: return body22();
                 case MUTE: return body23();
                 case FALLEN: return body24();
                 default: return body20();
@@ -999,15 +993,16 @@ public final class WindHarp {
             return length;
         }
 
-        private int body11(int depth) {
+        /** MARK, asked anew of one that sings, can be no other body than 21. */
+        private int body11() {
             leave(11);
             int lent = body10();
-            return lent + markAsked(depth);
+            return lent + body21();
         }
 
-        private int body12(int depth) {
+        private int body12() {
             leave(12);
-            return -body11(depth);
+            return -body11();
         }
 
         private int body13() {
@@ -1030,10 +1025,11 @@ public final class WindHarp {
             return body20() + tone;
         }
 
-        private int body22(int depth) {
+        /** SIZE, asked anew of one with ice, can be no other body than 13. */
+        private int body22() {
             leave(22);
             int mute = body23();
-            return mute + sizeAsked(depth);
+            return mute + body13();
         }
 
         private int body23() {
@@ -1248,32 +1244,24 @@ public final class WindHarp {
                 at++;
             }
             start = at;
+            value = 0;
             if (at >= size) {
                 sort = END;
             } else if (isLetter(byteAt(at))) {
-                passName();
+                sort = NAME;
+                for (int i = 0; i < TAPE_MOST && isLetter(byteAt(at)); i++) {
+                    at++;
+                }
             } else if (isFigure(byteAt(at))) {
-                passFigures();
+                for (int i = 0; i < TAPE_MOST && isFigure(byteAt(at)); i++) {
+                    value = 10 * value + byteAt(at) - '0';
+                    at++;
+                }
+                sort = at - start > 3 ? NO_TOKEN : NUMBER;
             } else {
                 sort = byteAt(at) == ';' ? SIGN : NO_TOKEN;
                 at++;
             }
-        }
-
-        private void passName() {
-            sort = NAME;
-            for (int i = 0; i < TAPE_MOST && isLetter(byteAt(at)); i++) {
-                at++;
-            }
-        }
-
-        private void passFigures() {
-            value = 0;
-            for (int i = 0; i < TAPE_MOST && isFigure(byteAt(at)); i++) {
-                value = 10 * value + byteAt(at) - '0';
-                at++;
-            }
-            sort = at - start > 3 ? NO_TOKEN : NUMBER;
         }
 
         /** Behind the end stands a byte that belongs to no token. */

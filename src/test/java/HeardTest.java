@@ -33,6 +33,13 @@ public final class HeardTest {
         due.is("left out and put in", x.slips(0, 0), 2);
         Due.wood(x, "tree 10 1 0 0;wind 0 20 1;tune 0 0 100 0;");
         due.is("three put in", x.slips(0, 0), 3);
+        Due.wood(x, "tree 10 1 0 0;".repeat(12) + "wind 0 20 1;tune 100 100 100 100 100 100 100 100 100 101;");
+        due.is("twelve and ten", x.slips(0, 0), 3);
+        due.is("twelve and ten, 1 apart", x.slips(0, 1), 2);
+        Due.wood(x, "tree 10 1 0 0;wind 0 20 1;tune 0 1 2 3 4 5 6 7 8 9;");
+        due.is("one and ten", x.slips(0, 0), 10);
+        due.is("one and ten, 91 apart", x.slips(0, 91), 9);
+        Due.wood(x, "tree 10 1 0 0;wind 0 20 1;");
         due.is("slips(-1, 0)", x.slips(-1, 0), Due.BAD);
         due.is("slips(1, 0)", x.slips(1, 0), Due.BAD);
         due.is("slips(0, -1)", x.slips(0, -1), Due.BAD);
@@ -65,6 +72,12 @@ public final class HeardTest {
         Due.wood(x, "tree 50 1 4 0; tree 50 1 0 0; tree 50 1 0 0; tree 50 1 0 0; tree 50 1 0 0; tree 50 1 0 0;"
             + "wind 0 20 1; tune 20 20 20 20 25;");
         isCheapest("one that does not sound is none of them", x, new int[] {0, 0, 10, 0, 0}, 1, 0, 1);
+        Due.wood(x, "tree 40 1 0 0; tree 40 1 0 0; tree 40 1 0 0; tree 40 1 0 0; tree 40 1 0 0;"
+            + "wind 0 20 1; tune 100 100 100 100 100;");
+        isCheapest("three steps each", x, new int[] {0, 0, 10, 0, 0}, 15, 0, 1023);
+        isCheapest("but for the last by steps", x, new int[] {0, 0, 10, 1, 0}, 12, 1, 255);
+        isCheapest("two steps of 15", x, new int[] {0, 0, 15, 0, 0}, 10, 0, 682);
+        isCheapest("small steps", x, new int[] {0, 0, 1, 0, 74}, 10, 0, 682);
         Due.wood(x, "tree 50 1 0 0; wind 4 20 1; tune 20;");
         isCheapest("no tree sounds", x, new int[] {0, 0, 10, 0, 0}, Due.NONE, Due.NONE, Due.NONE);
         isCheapest("no tree sounds, one slip", x, new int[] {0, 0, 10, 1, 0}, 0, 1, 0);
@@ -146,6 +159,8 @@ public final class HeardTest {
         isPlayed("wind 0 and 1", x, 0, 0, 3, 4);
         Due.orders(x, "fell 0; fell 1;");
         isPlayed("none", x, 0, 0, 0, 1);
+        Due.wood(x, "tree 10 1 0 0; wind 0 9 1; tune 100;");
+        isPlayed("odds of 1", x, 0, 0, 1, 1);
         due.is("x -1", x.plays(-1, 0, 0), Due.BAD);
         due.is("x 21", x.plays(21, 0, 0), Due.BAD);
         due.is("t -1", x.plays(0, -1, 0), Due.BAD);
@@ -224,6 +239,7 @@ public final class HeardTest {
         due.is("99", x.hung(20, 0, 202, 0), 99);
         due.is("beyond 99", x.hung(20, 0, 200, 0), Due.NONE);
         due.is("u 0", x.hung(1, 5, 0, 60), Due.NONE);
+        due.is("u 2000", x.hung(20, 5, 2000, 0), 10);
         due.is("p 0", x.hung(0, 0, 1, 0), Due.BAD);
         due.is("p 21", x.hung(21, 0, 1, 0), Due.BAD);
         due.is("g -1", x.hung(1, -1, 1, 0), Due.BAD);

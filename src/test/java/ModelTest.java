@@ -80,18 +80,21 @@ public final class ModelTest {
         boolean close = upTo(2) > 0;
         int sides = upTo(3) == 0 ? 7 : 2;
         int trees = 1 + (upTo(30) == 0 ? 12 : upTo(upTo(3) == 0 ? 11 : 6));
+        int[] reached = new int[trees];
         for (int i = 0; i < trees; i++) {
             int length = close ? 25 + upTo(8) : 10 + upTo(89);
-            word(text, "tree", length, close ? 3 + upTo(1) : 1 + upTo(19), upTo(sides), upTo(5));
+            int pull = close ? 3 + upTo(1) : 1 + upTo(19);
+            word(text, "tree", length, pull, upTo(sides), upTo(5));
+            reached[i] = Math.min(999, 1000 * pull / Math.max(10, length - upTo(12)));
         }
         int winds = upTo(40) == 0 ? 7 : upTo(12) == 0 ? 0 : 1 + upTo(3);
         for (int i = 0; i < winds; i++) {
             word(text, "wind", upTo(sides), 1 + upTo(19), 1 + upTo(98));
         }
         if (upTo(5) > 0) {
-            int[] tones = new int[1 + (upTo(30) == 0 ? 10 : upTo(7))];
+            int[] tones = new int[1 + (upTo(30) == 0 ? 10 : upTo(upTo(3) == 0 ? 9 : 5))];
             for (int i = 0; i < tones.length; i++) {
-                tones[i] = upTo(2) == 0 ? upTo(999) : 80 + upTo(80);
+                tones[i] = upTo(5) == 0 ? upTo(999) : reached[i % trees];
             }
             word(text, "tune", tones);
         }

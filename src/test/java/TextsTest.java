@@ -62,8 +62,10 @@ public final class TextsTest {
         reads("tree99 20 7 5;wind7 20 99;tune999;", 1, 1, 1);
         reads("tree 10 1 0 0;wind 0 1 1;tune 0;", 1, 1, 1);
         reads(TREE + "tune 1 2 3 4 5 6 7 8 9 10;", 1, 0, 10);
+        reads(TREE + "tune 999 999 0 999;", 1, 0, 4);
         reads(TREE.repeat(12) + "wind 0 1 1;".repeat(6) + "tune 5 5;", 12, 6, 2);
         WindHarp x = Due.harp("tree 20 3 4 5; tree 21 6 7 0;wind 4 1 1;");
+        newWoodsAreDry();
         int[] first = {20, 3, 4, 5, 0, 0, 150};
         int[] second = {21, 6, 7, 0, 0, 0, 285};
         for (int what = 0; what < 7; what++) {
@@ -81,6 +83,24 @@ public final class TextsTest {
             due.is("count(" + what + ") anew", x.count(what), 0);
         }
         due.is("undo() anew", x.undo(), Due.STATE);
+    }
+
+    /** What is foretold of a wet, old wood leaves nothing behind in the next. */
+    private static void newWoodsAreDry() {
+        WindHarp x = Due.harp("tree 20 3 4 5; wind 4 1 1; tune 5;");
+        Due.orders(x, "wet; ice 0; fell 0; let 0 5;");
+        x.go(9);
+        x.tuned(0, 20, 0);
+        x.cheapest(0, 0, 1, 20, 0, 0);
+        Due.wood(x, "tree 21 3 4 5; wind 4 1 1;");
+        int[] counts = {0, 1, 1, 0, 0, 0, 0, 0};
+        for (int what = 0; what < 8; what++) {
+            due.is("count(" + what + ") of a new wood", x.count(what), counts[what]);
+        }
+        int[] tree = {21, 3, 4, 5, 0, 0, 142};
+        for (int what = 0; what < 7; what++) {
+            due.is("tree(0, " + what + ") of a new wood", x.tree(0, what), tree[what]);
+        }
     }
 
     private static void woodFails(String text, int place, int number) {
@@ -101,6 +121,12 @@ public final class TextsTest {
         woodFails("wind 1 1 1;", 0, 1);
         woodFails("trees 10 1 1 1;", 0, 1);
         woodFails("tre 10 1 1 1;", 0, 1);
+        woodFails("treez 10 1 1 1;", 0, 1);
+        woodFails("treea 10 1 1 1;", 0, 1);
+        woodFails("tree{10 1 1 1;", 4, 1);
+        woodFails("tree`10 1 1 1;", 4, 1);
+        woodFails("tree:10 1 1 1;", 4, 1);
+        woodFails("tree/10 1 1 1;", 4, 1);
         woodFails("Tree 10 1 1 1;", 0, 1);
         woodFails("\ttree 10 1 1 1;", 0, 1);
         woodFails("tree\r10 1 1 1;", 4, 1);

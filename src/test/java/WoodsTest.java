@@ -181,6 +181,11 @@ public final class WoodsTest {
         due.is("image(0)", x.image(0), 1);
         Due.items(x, 2, 2, 77);
         Due.wood(x, "tree 50 1 3 0; wind 3 9 1; wind 4 9 1;");
+        Due.orders(x, "dry; turn 0 0; let 0 7;");
+        due.is("turned to 0", x.tree(0, 2), 0);
+        x.undo();
+        x.undo();
+        x.undo();
         due.is("image(1)", x.image(1), 1);
         Due.feed(x, "abc");
         due.is("restore(0)", x.restore(0), 1);
@@ -195,6 +200,8 @@ public final class WoodsTest {
         due.is("undo()", x.undo(), 1);
         due.is("undo()", x.undo(), 0);
         due.is("undone", x.tree(0, 0), 23);
+        due.is("undone", x.tree(1, 4), 0);
+        due.is("undone", x.count(5), 0);
         x.go(7);
         due.is("restore(0) again", x.restore(0), 1);
         due.is("the image is as it was", x.tree(0, 0), 18);
