@@ -78,6 +78,11 @@ public final class HeardTest {
         isCheapest("but for the last by steps", x, new int[] {0, 0, 10, 1, 0}, 12, 1, 255);
         isCheapest("two steps of 15", x, new int[] {0, 0, 15, 0, 0}, 10, 0, 682);
         isCheapest("small steps", x, new int[] {0, 0, 1, 0, 74}, 10, 0, 682);
+        Due.wood(x, "tree 40 8 0 0; tree 50 8 1 0; wind 0 20 1; wind 2 20 1; tune 190 155;");
+        Due.orders(x, "wet;");
+        isCheapest("it is wet", x, new int[] {0, 1, 1, 0, 0}, 0, 1, 0);
+        Due.orders(x, "fell 1;");
+        isCheapest("it is felled", x, new int[] {0, 1, 1, 1, 0}, 0, 2, 0);
         Due.wood(x, "tree 50 1 0 0; wind 4 20 1; tune 20;");
         isCheapest("no tree sounds", x, new int[] {0, 0, 10, 0, 0}, Due.NONE, Due.NONE, Due.NONE);
         isCheapest("no tree sounds, one slip", x, new int[] {0, 0, 10, 1, 0}, 0, 1, 0);
@@ -202,8 +207,15 @@ public final class HeardTest {
         due.is("far apart", x.birds(0, 0, 0, 4, 99), 4);
         Due.items(x, 1, 0, 100, 200);
         due.is("bytes", x.birds(0, 1, 0, 2, 0), 1);
+        Due.wood(x, "tree 10 1 0 0;".repeat(11) + "tree 10 2 0 0; wind 0 20 1;");
+        Due.items(x, 1, 1, 200, 100, 200, 200);
+        due.is("the twelfth tone", x.birds(0, 1, 0, 4, 0), 2);
+        due.is("heard anew, nothing is left of the first", x.birds(0, 1, 0, 1, 0), 0);
         x.row(2, 1, 40);
         due.is("twenty", x.birds(0, 2, 20, 20, 99), 20);
+        Due.wood(x, "tree 99 1 0 0; wind 0 20 1;");
+        due.is("items are 0 at first", x.birds(0, 2, 0, 1, 10), 0);
+        due.is("items are 0 at first", x.birds(0, 2, 0, 1, 9), 1);
     }
 
     private static void birdsRefuse() {

@@ -165,13 +165,13 @@ public final class WoodsTest {
     }
 
     private static void tones() {
-        WindHarp x = Due.harp("tree 10 20 0 0; tree 99 1 0 0; tree 13 2 0 0; tree 20 2 0 0; tree 51 10 0 0; wind 0 20 1;");
-        due.all("dry", Due.sound(x, 0), 2000, 10, 153, 100, 196);
+        WindHarp x = Due.harp("tree 10 20 0 0; tree 99 1 0 0; tree 13 2 0 0; tree 20 2 0 0; tree 51 10 0 0; tree 67 20 0 0; wind 0 20 1;");
+        due.all("dry", Due.sound(x, 0), 2000, 10, 153, 100, 196, 298);
         Due.orders(x, "wet;");
-        due.all("wet", Due.sound(x, 0), 1900, 10, 148, 95, 191);
+        due.all("wet", Due.sound(x, 0), 1900, 10, 148, 95, 191, 288);
         due.is("tree(0, 6)", x.tree(0, 6), 1900);
         Due.orders(x, "dry;");
-        due.all("dry again", Due.sound(x, 0), 2000, 10, 153, 100, 196);
+        due.all("dry again", Due.sound(x, 0), 2000, 10, 153, 100, 196, 298);
     }
 
     private static void images() {
