@@ -9,11 +9,17 @@ final class Due {
     }
 
     private final String name;
+    private String sentence = "";
     private int wrong;
     private int right;
 
     Due(String name) {
         this.name = name;
+    }
+
+    /** The sentence of the document that is tested from here on: told with what is wrong. */
+    void says(String words) {
+        sentence = " (" + words + ")";
     }
 
     void is(String call, long got, long due) {
@@ -23,7 +29,7 @@ final class Due {
         }
         wrong++;
         if (wrong <= 20) {
-            System.out.println(name + ": " + call + " answered " + got + ", due is " + due);
+            System.out.println(name + ": " + call + " answered " + got + ", due is " + due + sentence);
         }
     }
 
@@ -94,5 +100,20 @@ final class Due {
             tones[k] = harp.sound(wind, k);
         }
         return tones;
+    }
+
+    /** Item i of a row, 0 to 100, found by how far it is from the one tone, 100, of wind 0. */
+    static int item(WindHarp harp, int row, int i) {
+        int least = 0;
+        int most = 100;
+        while (least < most) {
+            int t = (least + most) / 2;
+            if (harp.birds(0, row, i, 1, t) == 0) {
+                most = t;
+            } else {
+                least = t + 1;
+            }
+        }
+        return 100 - least;
     }
 }
